@@ -867,6 +867,10 @@ public final class HailClub {
                 if (!readLine()) {
                     return false;
                 }
+                if (kind != ';') {
+                    return refuse(1);
+                }
+                step();
             }
             return true;
         }
@@ -920,17 +924,6 @@ public final class HailClub {
         }
 
         private boolean readLine() {
-            if (!readLineBody()) {
-                return false;
-            }
-            if (kind != ';') {
-                return refuse(1);
-            }
-            step();
-            return true;
-        }
-
-        private boolean readLineBody() {
             switch (kind) {
                 case Tokens.MEMBER: return readMember();
                 case Tokens.FIELD: return readField();
@@ -1246,8 +1239,8 @@ public final class HailClub {
                 case -'-': return a - b;
                 case -'*': return a * b;
                 case -'/': return b == 0 ? 0 : a / b;
-                case -Tokens.MIN: return Math.min(a, b);
-                case -Tokens.MAX: return Math.max(a, b);
+                case -Tokens.MIN: return a < b ? a : b;
+                case -Tokens.MAX: return a > b ? a : b;
                 default: return a > 0 ? b : c;
             }
         }
