@@ -600,6 +600,12 @@ public final class HailClub {
             }
         }
 
+        void setSoft(int crop, int soft) {
+            if (crop >= 0 && crop < CROPS) {
+                softs[crop] = soft;
+            }
+        }
+
         int softOf(int crop) {
             return crop >= 0 && crop < CROPS ? softs[crop] : 0;
         }
@@ -843,6 +849,7 @@ public final class HailClub {
         private final Tokens tokens;
         private final State draft;
         private final Law law;
+        private final int[] numbers = new int[5];
         int fault;
         int faultPlace = NONE;
         // The token that is looked at.
@@ -850,7 +857,6 @@ public final class HailClub {
         private int kind;
         private int place;
         private long value;
-        private int number;
         private int open;
 
         Reader(Tape tape, State draft, Law law) {
@@ -878,7 +884,7 @@ public final class HailClub {
         /** The draft is the club so far. */
         boolean readJoiner() {
             begin();
-            if (!readNewName(true)) {
+            if (!readNewName()) {
                 return false;
             }
             for (int i = 0; i <= FIELDS && kind != Tokens.END; i++) {
@@ -945,17 +951,17 @@ public final class HailClub {
                 return refuse(5);
             }
             step();
-            return readNewName(false);
+            return readNewName();
         }
 
-        private boolean readNewName(boolean joins) {
+        private boolean readNewName() {
             if (kind != Tokens.NAME) {
                 return refuse(1);
             }
             if (draft.memberNamed(value) != NONE) {
                 return refuse(2);
             }
-            if (joins && draft.memberCount >= MEMBERS) {
+            if (draft.memberCount >= MEMBERS) {
                 return refuse(5);
             }
             draft.addMember(value);
@@ -980,27 +986,12 @@ public final class HailClub {
         }
 
         private boolean readLand(int owner) {
-            if (!readNumber(0, SIDE - 1)) {
-                return false;
+            boolean fine = readNumber(0, 0, SIDE - 1) && readNumber(1, 0, SIDE - 1) && readNumber(2, 0, CROPS - 1)
+                && readNumber(3, 1, 99) && readNumber(4, 1, 999);
+            if (fine) {
+                draft.addField(new Field(owner, numbers[0], numbers[1], numbers[2], numbers[3], numbers[4]));
             }
-            int x = number;
-            if (!readNumber(0, SIDE - 1)) {
-                return false;
-            }
-            int y = number;
-            if (!readNumber(0, CROPS - 1)) {
-                return false;
-            }
-            int crop = number;
-            if (!readNumber(1, 99)) {
-                return false;
-            }
-            int area = number;
-            if (!readNumber(1, 999)) {
-                return false;
-            }
-            draft.addField(new Field(owner, x, y, crop, area, number));
-            return true;
+            return fine;
         }
 
         /** One FIELD too many is told at its first N, where a lesser FAULT may stand. */
@@ -1013,72 +1004,49 @@ public final class HailClub {
 
         private boolean readHazard() {
             step();
-            if (!readNumber(0, SIDE - 1)) {
-                return false;
+            boolean fine = readNumber(0, 0, SIDE - 1) && readNumber(1, 0, SIDE - 1)
+                && readNumber(2, numbers[0], SIDE - 1) && readNumber(3, numbers[1], SIDE - 1) && readNumber(4, 1, 9);
+            if (fine) {
+                draft.setHazards(numbers[0], numbers[1], numbers[2], numbers[3], numbers[4]);
             }
-            int x = number;
-            if (!readNumber(0, SIDE - 1)) {
-                return false;
-            }
-            int y = number;
-            if (!readNumber(x, SIDE - 1)) {
-                return false;
-            }
-            int toX = number;
-            if (!readNumber(y, SIDE - 1)) {
-                return false;
-            }
-            int toY = number;
-            if (!readNumber(1, 9)) {
-                return false;
-            }
-            draft.setHazards(x, y, toX, toY, number);
-            return true;
+            return fine;
         }
 
         private boolean readCrop() {
             step();
-            if (!readNumber(0, CROPS - 1)) {
-                return false;
+            boolean fine = readNumber(0, 0, CROPS - 1) && readNumber(1, 0, 200);
+            if (fine) {
+                draft.setSoft(numbers[0], numbers[1]);
             }
-            int crop = number;
-            if (!readNumber(0, 200)) {
-                return false;
-            }
-            if (crop >= 0 && crop < CROPS) {
-                draft.softs[crop] = number;
-            }
-            return true;
+            return fine;
         }
 
         private boolean readCover() {
-            if (!readRule(COVER)) {
-                return false;
+            boolean fine = readRule(COVER) && readNumber(0, 0, RULE_MOST[BY]);
+            if (fine) {
+                draft.rules[BY] = numbers[0];
             }
-            if (!readNumber(0, RULE_MOST[BY])) {
-                return false;
-            }
-            draft.rules[BY] = number;
-            return true;
+            return fine;
         }
 
         private boolean readRule(int rule) {
             step();
-            if (!readNumber(0, RULE_MOST[rule])) {
-                return false;
+            boolean fine = readNumber(0, 0, RULE_MOST[rule]);
+            if (fine) {
+                draft.rules[rule] = numbers[0];
             }
-            draft.rules[rule] = number;
-            return true;
+            return fine;
         }
 
-        private boolean readNumber(int least, int most) {
-            if (kind != Tokens.NUMBER) {
+        /** The N that is looked at is kept as the line's number i. */
+        private boolean readNumber(int i, int least, int most) {
+            if (kind != Tokens.NUMBER || i < 0 || i >= numbers.length) {
                 return refuse(1);
             }
             if (value < least || value > most) {
                 return refuse(4);
             }
-            number = (int) value;
+            numbers[i] = (int) value;
             step();
             return true;
         }

@@ -15,6 +15,7 @@ public final class RandomTest {
     private final Model model = new Model();
     private final StringBuilder log = new StringBuilder();
     private int calls = 0;
+    private boolean small;
 
     private RandomTest(long seed) {
         random = new Random(seed);
@@ -89,7 +90,8 @@ public final class RandomTest {
 
     private String land() {
         int big = below(3) == 0 ? 999 : 30;
-        return below(8) + " " + below(8) + " " + near(0, 3) + " " + near(1, 99) + " " + near(1, big);
+        String where = below(8) + " " + below(8) + " " + near(0, 3) + " ";
+        return where + near(1, small ? 9 : 99) + " " + near(1, small ? 60 : big);
     }
 
     private String sum(int depth) {
@@ -123,6 +125,7 @@ public final class RandomTest {
     }
 
     private String bookText() {
+        small = below(2) == 0;
         List<String> lines = new ArrayList<>();
         int members = below(10) == 0 ? 13 : 1 + below(6);
         for (int m = 0; m < members; m++) {
@@ -188,7 +191,10 @@ public final class RandomTest {
     private void act() {
         int x = below(8);
         int y = below(8);
-        switch (below(10)) {
+        switch (below(11)) {
+            case 10:
+                tune();
+                break;
             case 0:
                 if (below(2) == 0) {
                     StringBuilder who = new StringBuilder(pick(NAMES));
@@ -233,6 +239,21 @@ public final class RandomTest {
                     same("undo()", club.undo(), model.undo());
                 }
                 break;
+        }
+    }
+
+    /** A RATE by which some, but not all, are called for the most that may be. */
+    private void tune() {
+        long wanted = model.rate() == -1 ? 999 : model.rate();
+        int v = (int) Math.max(1, wanted / (1 + below((int) model.club(5) + 2)));
+        log.append("set(0, " + v + ") ");
+        same("set(0, " + v + ")", club.set(0, v), model.set(0, v));
+        for (int what = 0; what <= 10; what++) {
+            same("now(" + what + ")", club.now(what), model.now(what));
+        }
+        for (int m = 0; m < model.look(6); m++) {
+            int what = below(6);
+            same("mine(" + m + ", " + what + ")", club.mine(m, what), model.mine(m, what));
         }
     }
 

@@ -178,6 +178,13 @@ public final class YearTest {
         mine(x, 0, 2, 0, 0, 1, 0, 0);
         mine(x, 1, 2, 0, 0, 0, 0, 1);
         mine(x, 2, 6, 0, 0, 2, 0, 1);
+        // SHORT 20: a is held at 1; of the 19 that are left the first of two alike gets the odd one.
+        x = Check.book(UNEVEN + "member c;field c 0 0 0 10 100;pay 2;retain 41;cover 9 100;");
+        x.storm(0, 0, 7, 7, 100);
+        now(x, 43, 2, 41, 21, 0, 0, 0, 20, 0, 0, 0);
+        mine(x, 0, 3, 0, 0, 1, 0, 1);
+        mine(x, 1, 20, 0, 0, 10, 0, 0);
+        mine(x, 2, 20, 0, 0, 9, 0, 1);
     }
 
     private static void oneCoinIsDivided() {
