@@ -467,6 +467,9 @@ public final class HailClub {
                 softs[crop] = 100;
             }
             for (int member = 0; member < MEMBERS; member++) {
+                there[member] = false;
+                leaves[member] = false;
+                years[member] = 0;
                 endThere[member] = false;
             }
             rules[RATE] = 10;
@@ -516,9 +519,6 @@ public final class HailClub {
             if (memberCount < MEMBERS) {
                 names[memberCount] = name;
                 there[memberCount] = true;
-                leaves[memberCount] = false;
-                years[memberCount] = 0;
-                endThere[memberCount] = false;
                 memberCount++;
             }
         }

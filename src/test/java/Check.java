@@ -4,8 +4,18 @@ import java.nio.charset.StandardCharsets;
 final class Check {
     private static int right = 0;
     private static int wrong = 0;
+    private static String about = "";
 
     private Check() {
+    }
+
+    /** What the next answers are about, told with each that is not due. */
+    static void about(String what) {
+        about = what + ": ";
+    }
+
+    static int count() {
+        return right + wrong;
     }
 
     static void due(String what, long got, long want) {
@@ -13,7 +23,7 @@ final class Check {
             right++;
         } else {
             wrong++;
-            System.out.println("  " + what + " answered " + got + ", due is " + want);
+            System.out.println("  " + about + what + " answered " + got + ", due is " + want);
         }
     }
 
@@ -60,6 +70,49 @@ final class Check {
     static int join(HailClub club, String text) {
         put(club, text);
         return club.join();
+    }
+
+    /** now(0), now(1) and so on, as many as are told. */
+    static void now(HailClub x, long... want) {
+        for (int what = 0; what < want.length; what++) {
+            due("now(" + what + ")", x.now(what), want[what]);
+        }
+    }
+
+    /** mine(member, 0), mine(member, 1) and so on. */
+    static void mine(HailClub x, int member, long... want) {
+        for (int what = 0; what < want.length; what++) {
+            due("mine(" + member + ", " + what + ")", x.mine(member, what), want[what]);
+        }
+    }
+
+    /** mine(0, what), mine(1, what) and so on. */
+    static void each(HailClub x, int what, long... want) {
+        for (int member = 0; member < want.length; member++) {
+            due("mine(" + member + ", " + what + ")", x.mine(member, what), want[member]);
+        }
+    }
+
+    /** What the club answers to all questions about what undo() can bring back, of the first three of a kind. */
+    static String all(HailClub x) {
+        StringBuilder text = new StringBuilder();
+        for (int i = 0; i < 11; i++) {
+            text.append(x.club(i)).append(' ').append(x.now(i)).append(' ');
+            text.append(i == 5 ? 0 : x.look(i)).append(' ').append(x.hazard(i % 8, i / 2)).append(' ');
+            for (int number = 0; number < 3; number++) {
+                text.append(x.field(number, i)).append(' ').append(i < 8 ? x.member(number, i) : 0).append(' ');
+                text.append(i < 6 ? x.mine(number, i) : 0).append(' ').append(i < 6 ? x.then(number, i) : 0).append(' ');
+            }
+            text.append(i < 3 ? x.alone(i, 0) : 0).append('\n');
+        }
+        return text.toString();
+    }
+
+    /** A join with this FAULT at this place. */
+    static void joinFault(HailClub x, String text, int fault, int place) {
+        due("join of \"" + text + "\"", join(x, text), -1);
+        due("fault(0) of \"" + text + "\"", x.fault(0), fault);
+        due("fault(1) of \"" + text + "\"", x.fault(1), place);
     }
 
     /** A BOOK with this FAULT at this place, and all else as it was. */
