@@ -103,8 +103,13 @@ final class Check {
                 text.append(x.field(number, i)).append(' ').append(i < 8 ? x.member(number, i) : 0).append(' ');
                 text.append(i < 6 ? x.mine(number, i) : 0).append(' ').append(i < 6 ? x.then(number, i) : 0).append(' ');
             }
-            text.append(i < 3 ? x.alone(i, 0) : 0).append('\n');
+            text.append(i < 3 ? x.alone(i, 0) : 0).append(' ');
+            text.append(i < 8 ? x.near(i, i) : 0).append(' ').append(i < 4 ? x.rank(i) : 0).append('\n');
         }
+        for (int what = 0; what < 3; what++) {
+            text.append(x.worst(1, 1, 50, what)).append(' ');
+        }
+        text.append(x.rate()).append(' ').append(x.reserve()).append(' ').append(x.without(0, 1));
         return text.toString();
     }
 

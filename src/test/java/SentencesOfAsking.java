@@ -129,6 +129,20 @@ final class SentencesOfAsking {
         Check.due("worst with one that LEAVES", x.worst(1, 1, 1, 2), 29 + 42);
         x.close();
         Check.due("worst with one GONE", x.worst(8, 8, 100, 2), 100);
+        Check.due("worst beside one GONE", x.worst(1, 1, 100, 2), 100);
+    }
+
+    @Says(in = "Promise 20", words = "2 LOSSES then")
+    static void lossesOfAllFieldsThen() {
+        // FIELDS 0 to 11 at 0, 0, 12 to 22 at 2, 3, the last of them all at 3, 2.
+        HailClub x = Check.book("member a;" + "field a 0 0 0 1 1;".repeat(12) + "field a 2 3 0 1 2;".repeat(11)
+            + "field a 3 2 0 1 50;");
+        worst(x, 1, 1, 100, 3, 2, 50);
+        worst(x, 2, 2, 100, 2, 2, 72);
+        worst(x, 3, 3, 100, 1, 1, 72);
+        worst(x, 4, 4, 100, 0, 0, 84);
+        x.storm(3, 2, 3, 2, 100);
+        worst(x, 1, 1, 100, 2, 3, 72);
     }
 
     @Says(in = "Promise 20", words = "NONE: it can't be")
@@ -201,6 +215,18 @@ final class SentencesOfAsking {
         Check.due("rate() of all", x.rate(), 20);
         x.leave(0);
         Check.due("rate() with one that LEAVES", x.rate(), 20);
+        // The half of the 50 that an END brought to the RESERVE.
+        x = Check.book("member a;field a 0 0 0 1 100;rate 500;goal 100;");
+        x.close();
+        x.storm(0, 0, 0, 0, 100);
+        Check.due("rate() in the next YEAR", x.rate(), 750);
+        // ADVANCES of twelve, by POINTS.
+        String twelve = SentencesOfTheMap.members(12);
+        for (int i = 0; i < 12; i++) {
+            twelve += "field m" + (char) ('a' + i) + " 0 0 0 1 100;";
+        }
+        Check.due("rate() of twelve", hit(twelve + "pay 1;").rate(), 10);
+        Check.due("rate() of twelve by POINTS", hit(twelve + "pay 1;hazard 0 0 0 0 5;").rate(), 2);
     }
 
     @Says(in = "Promise 21", words = "NONE: with none")
@@ -330,6 +356,13 @@ final class SentencesOfAsking {
         x.close();
         Check.due("near with one GONE", x.near(4, 4), 0x2aa);
         Check.due("near in a new object", new HailClub().near(0, 0), 0);
+        // The last of all FIELDS; one that came and was undone.
+        x = Check.book("member a;member b;" + "field a 0 0 0 1 1;".repeat(22) + "field b 4 4 0 1 1;");
+        Check.due("near the last FIELD", x.near(4, 4), 2);
+        Check.join(x, "c 4 4 0 1 1");
+        Check.due("near one that JOINED", x.near(4, 4), 6);
+        x.undo();
+        Check.due("near one that was undone", x.near(4, 4), 2);
     }
 
     @Says(in = "Promise 24", words = "or in one beside it (x or y one other)")

@@ -13,6 +13,17 @@ final class SentencesOfTheBook {
         Check.due("book without its last byte", x.book(), -1);
         Check.due("its FAULT", x.fault(0), 1);
         Check.due("its place", x.fault(1), 700);
+        // A law as long as there is place for, and one byte more of it.
+        String law = "member a;field a 0 0 0 1 1;pay 0" + "+1-1".repeat(166) + "+9";
+        Check.put(x, law + ";");
+        Check.due("bytes of the law", x.look(5), 699);
+        Check.due("book of the law", x.book(), 1);
+        x.storm(0, 0, 0, 0, 100);
+        Check.due("PAID", x.field(0, 8), 9);
+        Check.put(x, law + "9;");
+        Check.due("book of a byte more", x.book(), 1);
+        x.storm(0, 0, 0, 0, 100);
+        Check.due("PAID then", x.field(0, 8), 99);
         // What stood on THE TAPE before is no part of it.
         Check.put(x, "rate 6; rate 7;");
         x.end(7);

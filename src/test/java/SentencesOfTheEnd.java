@@ -9,6 +9,22 @@ final class SentencesOfTheEnd {
     private static final String STEPS = "member a;member b;member c;field a 0 0 0 1 199;field b 1 0 0 1 399;"
         + "field c 2 0 0 10 100;rate 10;cap 1;goal 0;pay 3;retain 0;cover ";
 
+    /** POINTS 350, 498, 580, 1093, 1099, 1099, 1298, 1398, 1399, 1499, 1799, 2000; NET 262 if all is LOST. */
+    private static final String TWELVE = SentencesOfTheMap.members(12) + "field ma 0 0 0 1 350;field mb 0 0 0 1 498;"
+        + "field mc 0 0 0 1 580;field md 0 0 0 1 999;field md 0 0 0 1 94;field me 0 0 0 7 157;field mf 0 0 0 7 157;"
+        + "field mg 0 0 0 2 649;field mh 0 0 0 2 699;field mi 0 0 0 2 699;field mi 0 0 0 1 1;field mj 0 0 0 2 749;"
+        + "field mj 0 0 0 1 1;field mk 0 0 0 7 257;field ml 0 0 0 10 200;retain 262;cover 9999999 100;cap 1;goal 0;";
+    /** Each with SUMS and POINTS 100. */
+    private static final String ALIKE = alike();
+
+    private static String alike() {
+        StringBuilder text = new StringBuilder(SentencesOfTheMap.members(12));
+        for (int i = 0; i < 12; i++) {
+            text.append("field m").append((char) ('a' + i)).append(" 0 0 0 1 100;");
+        }
+        return text.toString();
+    }
+
     private SentencesOfTheEnd() {
     }
 
@@ -141,6 +157,10 @@ final class SentencesOfTheEnd {
         x = Check.book("member z;member a;member b;field a 0 0 0 1 99;field b 1 0 0 1 100;goal 0;");
         Check.now(x, 0, 0, 0, 1, 0, 1);
         Check.each(x, 2, 0, 0, 1);
+        // By ADVANCES, 1 and 1, not by POINTS, 100 and 199: the one COIN is the first's.
+        x = hit("member a;member b;field a 0 0 0 1 100;field b 1 0 0 1 199;goal 0;pay 1;", 0);
+        Check.now(x, 1, 0, 1, 2, 0, 1);
+        Check.each(x, 2, 1, 0);
     }
 
     @Says(in = "Terms 3", words = "Else SHORT is what is between")
@@ -209,6 +229,14 @@ final class SentencesOfTheEnd {
         HailClub x = hit(STEPS + "2 100;", 2);
         Check.now(x, 30, 2, 28, 14, 0, 0, 0, 14, 0, 0, 0);
         Check.each(x, 3, 1, 3, 10);
+    }
+
+    @Says(in = "Terms 3", words = "and so on")
+    static void twelveTimesAnew() {
+        // SHORT is all that may be CALLED; but one is held each time: b, c, e, f, a, d, g, i, h, j, k.
+        HailClub x = hit(TWELVE);
+        Check.now(x, 14112, 13850, 262, 131, 0, 0, 0, 131, 0, 0, 0);
+        Check.each(x, 3, 3, 4, 5, 10, 10, 10, 12, 13, 13, 14, 17, 20);
     }
 
     @Says(in = "Terms 3", words = "till nobody would be called for more")
@@ -321,6 +349,13 @@ final class SentencesOfTheEnd {
         // Behind a, whose 40 are there, all POINTS are b's: of 100 less 40 all, four fifths 48.
         x.leave(0);
         Check.each(x, 4, 40, 48);
+        // SUMS and POINTS of the first are gone when the second owes.
+        x = Check.book("member b;member a;member c;field a 0 0 0 10 100;field b 1 0 0 10 100;field c 2 0 0 10 100;"
+            + "hazard 1 0 1 0 4;rate 0;goal 30;");
+        x.leave(0);
+        x.leave(1);
+        // b: of 900 by 4000 of 6000 it is 600, four fifths 480. a: of 600 less 480 the half is 60, four fifths 48.
+        Check.each(x, 4, 480, 48, 0);
         // The half of 3 is 1, and four fifths of that 0.
         x = Check.book("member a;member b;field a 0 0 0 1 15;field b 0 0 0 1 15;rate 0;goal 10;");
         x.leave(0);
@@ -443,6 +478,37 @@ final class SentencesOfTheEnd {
         long[] balances = {10 + 7 - 10, 7 - 10, 6 - 10};
         for (int member = 0; member < 3; member++) {
             Check.due("then(" + member + ", 5)", x.then(member, 5), balances[member]);
+        }
+    }
+
+    @Says(in = "Terms 3", words = "BALANCE of a MEMBER in the latest END: CLAIMS, less what was CUT of them, GIVEN BACK, "
+        + "less ADVANCE, CALLED, DUES.")
+    static void balancesOfTwelve() {
+        HailClub x = hit(ALIKE + "cap 1;goal 0;");
+        Check.now(x, 1200, 0, 1200, 12, 0, 0, 0, 12, 1176, 0, 0);
+        allAlike(x, 100, 98, 0, 1, 0, 0);
+        x.undo();
+        // What was CUT and CALLED is nothing now.
+        Check.now(x, 0, 0, 0, 12, 0, 12, 0, 0, 0, 0, 0);
+        allAlike(x, 0, 0, 1, 0, 0, 0);
+        x.set(6, 100);
+        Check.now(x, 0, 0, 0, 12, 12, 0, 0, 0, 0, 0, 12);
+        allAlike(x, 0, 0, 0, 0, 0, -1);
+        x.leave(11);
+        x.leave(10);
+        // k: of 1188 the twelfth is 99, four fifths 79. l: 1100 less 91 is 1009, the eleventh 91, four fifths 72.
+        Check.mine(x, 10, 0, 0, 0, 0, 79, -80);
+        Check.mine(x, 11, 0, 0, 0, 0, 72, -73);
+        Check.now(x, 0, 0, 0, 12, 12, 0, 0, 0, 0, 151, 163);
+        x.close();
+        Check.due("then(9, 5)", x.then(9, 5), -1);
+        Check.due("then(10, 5)", x.then(10, 5), -80);
+        Check.due("then(11, 5)", x.then(11, 5), -73);
+    }
+
+    private static void allAlike(HailClub x, long... want) {
+        for (int member = 0; member < 12; member++) {
+            Check.mine(x, member, want);
         }
     }
 

@@ -114,6 +114,12 @@ final class SentencesOfTheLaw {
         paid("50-(20-10)", 40);
         paid("40/(4/2)", 20);
         paid("((1+2)*(3+4))", 21);
+        // As deep as may be, with as much as there can be that waits.
+        String deep = "5";
+        for (int i = 0; i < 8; i++) {
+            deep = "if(0,1,1+1*" + deep + ")";
+        }
+        paid("0+1*" + deep, 13);
         Check.bookFault("pay ();", 1, 5);
         Check.bookFault("pay (1;", 1, 6);
         Check.bookFault("pay (1,2);", 1, 6);

@@ -261,6 +261,13 @@ final class SentencesOfTheTape {
         for (int what = 0; what < member.length; what++) {
             Check.due("member(1, " + what + ")", x.member(1, what), member[what]);
         }
+        // Behind as many STORMS as there can be.
+        for (int i = 0; i < 16; i++) {
+            x.storm(0, 0, 0, 0, 1);
+        }
+        Check.due("join behind the STORMS", Check.join(x, "e 1 1 0 1 1"), 0);
+        Check.due("MEMBERS then", x.look(0), 3);
+        Check.due("its FIELD", x.field(3, 0), 2);
         Check.joinFault(x, "1 2 3 4 5", 1, 0);
         Check.joinFault(x, "c 1 2 3 4", 1, 9);
         Check.joinFault(x, "c 1 2 3 4 5 6", 1, 13);
@@ -371,6 +378,21 @@ final class SentencesOfTheTape {
         Check.due("join without FIELDS", Check.join(x, "d"), 0);
     }
 
+    @Says(in = "Promise 5", words = "the 25th FIELD in all at its first N")
+    static void twentyFiveFieldsAtOnce() {
+        String land = " 1 2 3 4 5";
+        HailClub x = new HailClub();
+        Check.joinFault(x, "a" + land.repeat(25), 5, 2 + 24 * land.length());
+        Check.joinFault(x, "a" + land.repeat(24) + " 7", 5, 2 + 24 * land.length());
+        Check.joinFault(x, "a" + land.repeat(24) + ";", 1, 1 + 24 * land.length());
+        Check.due("nobody", x.look(6), 0);
+        Check.due("join with 24", Check.join(x, "a" + land.repeat(24)), 0);
+        Check.due("FIELDS", x.look(1), 24);
+        for (int field = 0; field < 24; field++) {
+            Check.due("VALUE of " + field, x.field(field, 5), 5);
+        }
+    }
+
     @Says(in = "Promise 5", words = "nobody JOINS")
     static void nobodyJoins() {
         HailClub x = used();
@@ -472,6 +494,12 @@ final class SentencesOfTheTape {
         Check.due("named an", named(x, "an"), 2);
         x.undo();
         Check.due("named ann that is back", named(x, "ann"), 0);
+        x = Check.book(SentencesOfTheMap.members(11));
+        Check.join(x, "ml");
+        for (int member = 0; member < 12; member++) {
+            String name = "m" + (char) ('a' + member);
+            Check.due("named " + name, named(x, name), member);
+        }
     }
 
     @Says(in = "Promise 7", words = "(empty then)")

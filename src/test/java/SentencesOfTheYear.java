@@ -214,6 +214,52 @@ final class SentencesOfTheYear {
         Check.due("all is as it was", Check.all(x).equals(before), true);
     }
 
+    /** Twelve MEMBERS with two FIELDS each, of which the first of all are in one row, the others below them. */
+    private static HailClub full() {
+        StringBuilder text = new StringBuilder(SentencesOfTheMap.members(12));
+        for (int field = 0; field < 24; field++) {
+            text.append("field m").append((char) ('a' + field % 12)).append(' ').append(field % 8).append(' ')
+                .append(field / 8).append(" 0 1 9").append(field % 10).append(';');
+        }
+        return Check.book(text.toString());
+    }
+
+    private static String numbers(HailClub x) {
+        StringBuilder text = new StringBuilder();
+        for (int member = 0; member < 12; member++) {
+            text.append(x.member(member, 0)).append(' ').append(x.member(member, 1)).append(' ')
+                .append(x.member(member, 2)).append(' ').append(x.then(member, 5)).append(' ');
+        }
+        for (int field = 0; field < 24; field++) {
+            text.append(x.field(field, 6)).append(' ').append(x.field(field, 7)).append(' ');
+        }
+        return text.toString();
+    }
+
+    @Says(in = "Promise 11", words = "close()")
+    static void closeOfAFullClubIsUndone() {
+        HailClub x = full();
+        x.storm(0, 0, 7, 7, 9);
+        x.close();
+        for (int i = 0; i < 16; i++) {
+            x.storm(i % 8, i / 8, i % 8, i / 8 + 1, 10 + i);
+        }
+        x.leave(3);
+        x.leave(11);
+        String before = numbers(x);
+        x.close();
+        for (int i = 0; i < 7; i++) {
+            x.storm(7, 2, 7, 2, 1 + i);
+        }
+        Check.due("the END changes something", numbers(x).equals(before), false);
+        for (int i = 0; i < 8; i++) {
+            Check.due("undo " + i, x.undo(), true);
+        }
+        Check.due("all is as it was", numbers(x).equals(before), true);
+        Check.due("STORMS", x.look(2), 16);
+        Check.due("undo of more", x.undo(), false);
+    }
+
     @Says(in = "Promise 11", words = "that was done is undone")
     static void onlyWhatWasDone() {
         HailClub x = Check.book("member a;");
