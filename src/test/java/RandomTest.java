@@ -7,6 +7,7 @@ import java.util.Random;
 public final class RandomTest {
     private static final String[] NAMES = {"ann", "bob", "cy", "a", "zzzzzzz", "dora", "emil", "fritz", "gus",
         "hana", "ida", "jo", "kim", "lea"};
+    private static final String[] LETTERS = {"a", "b", "c", "d", "e", "f", "g", "h", "i", "j", "k", "l", "m", "n"};
     private static final String[] ODD = {"member", "loss", "eightlet", "123456789", "!", "#", "(", ")", ",", ";",
         "join", "leave", "0", "8", "100", "99999999", "A", "\u00e9", "\t", "\0", "ann", "pay", "if", "-", "/"};
 
@@ -16,6 +17,8 @@ public final class RandomTest {
     private final StringBuilder log = new StringBuilder();
     private int calls = 0;
     private boolean small;
+    // Whether a text has no odd N; else full clubs would hardly ever be read.
+    private boolean careful;
 
     private RandomTest(long seed) {
         random = new Random(seed);
@@ -66,6 +69,7 @@ public final class RandomTest {
     }
 
     private void text(String text) {
+        careful = false;
         byte[] bytes = text.getBytes(StandardCharsets.ISO_8859_1);
         log.append('[').append(text).append("] ");
         for (int at = 0; at < bytes.length && at + 20 <= 700; at += 20) {
@@ -81,8 +85,7 @@ public final class RandomTest {
     }
 
     private int near(int least, int most) {
-        int odd = below(60);
-        if (odd == 0) {
+        if (!careful && below(60) == 0) {
             return most + 1;
         }
         return least + below(most - least + 1);
@@ -126,14 +129,17 @@ public final class RandomTest {
 
     private String bookText() {
         small = below(2) == 0;
+        careful = below(2) == 0;
         List<String> lines = new ArrayList<>();
-        int members = below(10) == 0 ? 13 : 1 + below(6);
+        boolean full = below(3) == 0;
+        String[] names = full ? LETTERS : NAMES;
+        int members = full ? 7 + below(careful ? 6 : 7) : 1 + below(6);
         for (int m = 0; m < members; m++) {
-            lines.add("member " + NAMES[below(40) == 0 ? below(14) : m]);
+            lines.add("member " + names[careful || below(40) > 0 ? m : below(14)]);
         }
-        int fields = below(10) == 0 ? 26 : below(14);
+        int fields = full ? 12 + below(careful ? 13 : 15) : below(14);
         for (int f = 0; f < fields; f++) {
-            lines.add("field " + NAMES[below(below(60) == 0 ? 14 : members)] + " " + land());
+            lines.add("field " + names[below(careful || below(60) > 0 ? members : 14)] + " " + land());
         }
         for (int i = below(5); i > 0; i--) {
             int x = below(8);
@@ -162,7 +168,7 @@ public final class RandomTest {
         if (below(2) == 0) {
             lines.add(below(members + 1), "pay " + sum(below(6)));
         }
-        if (below(20) == 0) {
+        if (!careful && below(10) == 0) {
             lines.add("pay " + sum(3));
         }
         StringBuilder all = new StringBuilder();
@@ -171,7 +177,7 @@ public final class RandomTest {
                 all.append(line).append(';').append(below(4) == 0 ? "\n" : "");
             }
         }
-        return spoiled(all.toString());
+        return careful ? all.toString() : spoiled(all.toString());
     }
 
     private String spoiled(String text) {
@@ -189,33 +195,28 @@ public final class RandomTest {
     }
 
     private void act() {
-        int x = below(8);
-        int y = below(8);
         switch (below(11)) {
             case 10:
                 tune();
                 break;
             case 0:
                 if (below(2) == 0) {
-                    StringBuilder who = new StringBuilder(pick(NAMES));
+                    careful = below(2) == 0;
+                    StringBuilder who = new StringBuilder(pick(below(2) == 0 ? NAMES : LETTERS));
                     for (int i = below(4); i > 0; i--) {
                         who.append(' ').append(land());
                     }
-                    text(spoiled(who.toString()));
+                    text(careful ? who.toString() : spoiled(who.toString()));
                     same("join()", club.join(), model.join());
                     same("fault(0)", club.fault(0), model.fault(0));
                     same("fault(1)", club.fault(1), model.fault(1));
                 }
                 break;
-            case 1: case 2: case 3: case 4: {
-                int toX = near(x - (below(30) == 0 ? 1 : 0), 7);
-                int toY = near(y - (below(30) == 0 ? 1 : 0), 7);
-                int strength = near(below(30) == 0 ? 0 : 1, 100);
-                String call = "storm(" + x + ", " + y + ", " + toX + ", " + toY + ", " + strength + ")";
-                log.append(call).append(' ');
-                same(call, club.storm(x, y, toX, toY, strength), model.storm(x, y, toX, toY, strength));
+            case 1: case 2: case 3: case 4:
+                for (int i = below(15) == 0 ? 17 : 1; i > 0; i--) {
+                    storm();
+                }
                 break;
-            }
             case 5: {
                 int m = below(14) - 1;
                 log.append("leave(" + m + ") ");
@@ -242,6 +243,17 @@ public final class RandomTest {
         }
     }
 
+    private void storm() {
+        int x = below(8);
+        int y = below(8);
+        int toX = near(x - (below(30) == 0 ? 1 : 0), 7);
+        int toY = near(y - (below(30) == 0 ? 1 : 0), 7);
+        int strength = near(below(30) == 0 ? 0 : 1, 100);
+        String call = "storm(" + x + ", " + y + ", " + toX + ", " + toY + ", " + strength + ")";
+        log.append(call).append(' ');
+        same(call, club.storm(x, y, toX, toY, strength), model.storm(x, y, toX, toY, strength));
+    }
+
     /** A RATE by which some, but not all, are called for the most that may be. */
     private void tune() {
         long wanted = model.rate() == -1 ? 999 : model.rate();
@@ -263,7 +275,7 @@ public final class RandomTest {
     }
 
     private void ask() {
-        int m = below(30) == 0 ? random.nextInt() : below(8) - (below(20) == 0 ? 1 : 0) + (below(5) == 0 ? 6 : 0);
+        int m = below(30) == 0 ? random.nextInt() : below(13) - (below(20) == 0 ? 1 : 0);
         int x = what(7);
         int y = what(7);
         int w;
@@ -294,14 +306,14 @@ public final class RandomTest {
                 same("reserve()", club.reserve(), model.reserve());
                 break;
             case 9: {
-                int other = below(8) - (below(20) == 0 ? 1 : 0);
+                int other = below(13) - (below(20) == 0 ? 1 : 0);
                 same("without(" + m + ", " + other + ")", club.without(m, other), model.without(m, other));
                 break;
             }
             case 10: same("near(" + x + ", " + y + ")", club.near(x, y), model.near(x, y)); break;
-            case 11: w = what(7); same("rank(" + w + ")", club.rank(w), model.rank(w)); break;
+            case 11: w = what(12); same("rank(" + w + ")", club.rank(w), model.rank(w)); break;
             case 12: {
-                int s = what(6);
+                int s = what(15);
                 w = what(3);
                 same("alone(" + s + ", " + w + ")", club.alone(s, w), model.alone(s, w));
                 break;
@@ -310,7 +322,7 @@ public final class RandomTest {
                 w = what(7);
                 same("look(" + w + ")", club.look(w), model.look(w));
                 if (below(6) == 0) {
-                    text(spoiled(" " + pick(NAMES) + "\n"));
+                    text(spoiled(" " + pick(below(2) == 0 ? NAMES : LETTERS) + "\n"));
                     same("named()", club.named(), model.named());
                     same("fault(0)", club.fault(0), model.fault(0));
                 }
